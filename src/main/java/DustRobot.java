@@ -367,17 +367,24 @@ public final class DustRobot {
     }
 
     public int fate(int job, int what) {
-        Job found = now.queue.jobAt(job);
-        if (found == null) {
+        trial.copyFrom(now);
+        Job tried = trial.queue.jobAt(job);
+        if (tried == null) {
             return UNKNOWN;
         }
         if (!isFrom(what, 0, 2)) {
             return BAD_VALUE;
         }
-        if (found.state != WAITING && found.state != UNDER_WAY) {
+        if (!tried.isOpen()) {
             return NOT_POSSIBLE;
         }
-        return forecast(job, what);
+        for (int passed = 1; passed <= FATE_TICKS; passed++) {
+            trial.passOneTick();
+            if (!tried.isOpen()) {
+                return what == 0 ? tried.state : what == 1 ? passed : tried.pleas;
+            }
+        }
+        return NONE;
     }
 
     public int takes(int sort, int item) {
@@ -430,21 +437,6 @@ public final class DustRobot {
         }
         history.record(now);
         return now.queue.enter(kind, target, slot);
-    }
-
-    private int forecast(int job, int what) {
-        trial.copyFrom(now);
-        Job tried = trial.queue.jobAt(job);
-        if (tried == null) {
-            return UNKNOWN;
-        }
-        for (int passed = 1; passed <= FATE_TICKS; passed++) {
-            trial.passOneTick();
-            if (tried.state == DONE || tried.state == LOST) {
-                return what == 0 ? tried.state : what == 1 ? passed : tried.pleas;
-            }
-        }
-        return NONE;
     }
 
     private static boolean isFrom(int value, int least, int most) {
@@ -639,6 +631,11 @@ public final class DustRobot {
             pleas = other.pleas;
             until = other.until;
             lostReads = other.lostReads;
+        }
+
+        /** Whether it waits or is under way. */
+        boolean isOpen() {
+            return state == WAITING || state == UNDER_WAY;
         }
 
         /** The item that the robot carries for this job; NONE for a cleaning that has not begun. */
@@ -871,8 +868,7 @@ public final class DustRobot {
             int found = 0;
             for (int i = 0; i < jobCount; i++) {
                 Job job = jobs[i];
-                boolean open = job.state == WAITING || job.state == UNDER_WAY;
-                found += open && job.carriedItem() == item ? 1 : 0;
+                found += job.isOpen() && job.carriedItem() == item ? 1 : 0;
             }
             return found;
         }
@@ -1042,9 +1038,10 @@ public final class DustRobot {
         }
 
         int ticksUntilAllowed(int slot) {
+            float cost = costTo(slot);
             float later = meter;
             for (int ticks = 0; ticks <= STILL_TICKS; ticks++) {
-                if (isAllowed(later, slot)) {
+                if (isAllowed(later, cost)) {
                     return ticks;
                 }
                 later = later * 0.75f;
@@ -1052,20 +1049,15 @@ public final class DustRobot {
             return NONE;
         }
 
-        private boolean isAllowed(float dust, int slot) {
-            return slot == place || dust + costTo(slot) <= limit;
+        // Only to go 0 slots costs nothing, and that is allowed above the limit too.
+        private boolean isAllowed(float dust, float cost) {
+            return cost == 0.0f || dust + cost <= limit;
         }
 
         private float costTo(int slot) {
-            return (float) Math.abs(slot - place) * load();
-        }
-
-        private float load() {
             Item held = store.itemAt(hand);
-            if (held == null) {
-                return 0.5f;
-            }
-            return held.isCleaner ? 1.5f : 1.0f;
+            float load = held == null ? 0.5f : held.isCleaner ? 1.5f : 1.0f;
+            return (float) Math.abs(slot - place) * load;
         }
 
         /** Returns how many jobs are done in this tick. */
@@ -1142,13 +1134,14 @@ public final class DustRobot {
         }
 
         private boolean goTo(Job job, int slot) {
-            if (!isAllowed(meter, slot)) {
+            float cost = costTo(slot);
+            if (!isAllowed(meter, cost)) {
                 job.pleas++;
                 pleas++;
                 log.add(EVENT_PLEA, ownJob, NONE, tick);
                 return false;
             }
-            meter = meter + costTo(slot);
+            meter = meter + cost;
             slotsGone += Math.abs(slot - place);
             place = slot;
             return true;
