@@ -60,6 +60,11 @@ final class PromisesTest {
         faultsOfTexts();
         undo();
         keepAndRestore();
+        numbersAreGivenAgain();
+        statesOfOtherThings();
+        aKeptStateGoesOn();
+        aStateAmidLostReads();
+        aFullRobot();
     }
 
     private void promises21To34() {
@@ -76,6 +81,7 @@ final class PromisesTest {
         takes();
         event();
         count();
+        countsOfSeveralDrives();
     }
 
     // ---- what there is
@@ -305,6 +311,9 @@ final class PromisesTest {
         dueNothing(x, "read(0)", FULL, () -> x.read(0));
         dueNothing(x, "read(1)", NOT_POSSIBLE, () -> x.read(1));
         dueNothing(x, "read(2)", UNKNOWN, () -> x.read(2));
+        due("undo()", x.undo(), 3);
+        due("the one that was FULL is not in the history: count(4)", x.count(4), 29);
+        x.read(0);
         x.withdraw(7);
         dueNothing(x, "read(0) behind a withdrawn one", FULL, () -> x.read(0));
     }
@@ -906,6 +915,11 @@ final class PromisesTest {
     /** A robot with all kinds of things and jobs. */
     private static DustRobot busy() {
         DustRobot x = new DustRobot();
+        makeBusy(x);
+        return x;
+    }
+
+    private static void makeBusy(DustRobot x) {
         x.addDrive(4);
         x.addDrive(19);
         for (int tape = 0; tape < 6; tape++) {
@@ -915,9 +929,8 @@ final class PromisesTest {
         x.addCleaner(11, 2);
         typeAll(x, "r1;r2;r5;c0;r5;r5;m2>22;c1;r3;m7>10;r4;r5;c0;r5");
         x.readJobs();
-        x.setCeiling(0, bits(3.0f));
-        x.setLimit(bits(9.0f));
-        return x;
+        x.setCeiling(0, bits(5.0f));
+        x.setLimit(bits(15.0f));
     }
 
     private void keepAndRestore() {
@@ -953,6 +966,184 @@ final class PromisesTest {
         dueAct(x, "restore()", 37, x::restore);
         due("the state", Told.state(x), kept);
         dueAct(x, "restore() of what is so already", 37, x::restore);
+    }
+
+    private void numbersAreGivenAgain() {
+        title("20 a robot that is brought back to its beginning is as new");
+        DustRobot x = new DustRobot();
+        x.keep();
+        makeBusy(x);
+        for (int i = 0; i < 4; i++) {
+            x.tick(100);
+        }
+        due("some reads are lost: count(12)", x.count(12) >= 2 ? 1 : 0, 1);
+        due("some jobs are lost: count(7)", x.count(7) >= 1 ? 1 : 0, 1);
+        due("restore()", x.restore(), 0);
+        x.clearText();
+        due("the state", Told.state(x), Told.state(new DustRobot()));
+        makeBusy(x);
+        DustRobot fresh = busy();
+        for (int i = 0; i < 80; i++) {
+            due("the state", Told.state(x), Told.state(fresh));
+            x.tick(5);
+            fresh.tick(5);
+        }
+    }
+
+    private void statesOfOtherThings() {
+        title("18, 20 the same numbers stand for other things in each state");
+        DustRobot x = new DustRobot();
+        x.addDrive(4);
+        x.addTape(2, bits(1.0f));
+        x.read(0);
+        x.tick(7);
+        String first = Told.state(x);
+        x.keep();
+        for (int left = 3; left >= 0; left--) {
+            due("undo()", x.undo(), left);
+        }
+        x.addCleaner(7, 9);
+        x.addDrive(9);
+        x.clean(0);
+        x.tick(4);
+        String second = Told.state(x);
+        due("restore()", x.restore(), 7);
+        due("the first state", Told.state(x), first);
+        due("undo()", x.undo(), 3);
+        due("the second state", Told.state(x), second);
+        due("fate(0, 1)", x.fate(0, 1), 4);
+        x.restore();
+        due("tick(1)", x.tick(1), 1);
+        due("item(0, 0)", x.item(0, 0), 0);
+        due("fate(0, 1)", x.fate(0, 1), NOT_POSSIBLE);
+        title("18 what is added again has nothing of what was there");
+        DustRobot y = new DustRobot();
+        y.addTape(3, bits(1.0f));
+        y.undo();
+        y.addCleaner(3, 1);
+        due("item(0, 5)", y.item(0, 5), 0);
+        y.undo();
+        y.addTape(3, bits(0.5f));
+        due("item(0, 0)", y.item(0, 0), 0);
+        due("item(0, 4)", y.item(0, 4), 0);
+        y.keep();
+        y.move(0, 5);
+        y.putOff(0, 77);
+        y.restore();
+        y.move(0, 6);
+        due("job(0, 11)", y.job(0, 11), 0);
+        due("fate(0, 1)", y.fate(0, 1), 4);
+    }
+
+    private void aKeptStateGoesOn() {
+        title("20 a state that was kept goes on as it would have");
+        DustRobot x = new DustRobot();
+        DustRobot y = new DustRobot();
+        for (DustRobot robot : new DustRobot[] {x, y}) {
+            robot.addDrive(4);
+            robot.addTape(2, bits(1.0f));
+            typeAll(robot, "r0;r0;r0;r0;m0>9;r0");
+            robot.readJobs();
+            robot.tick(28);
+        }
+        x.keep();
+        for (int left = 3; left >= 0; left--) {
+            due("undo()", x.undo(), left);
+        }
+        x.addTape(5, 0);
+        x.addDrive(7);
+        x.addCleaner(20, 3);
+        due("other jobs", answerTo(x, "m0>1;m1>3;r0;c0;r0;r0"), 6);
+        x.tick(13);
+        x.restore();
+        for (int ticks = 0; ticks < 60; ticks++) {
+            due("the state", Told.state(x), Told.state(y));
+            for (int job = 0; job < 6; job++) {
+                due("fate(" + job + ", 1)", x.fate(job, 1), y.fate(job, 1));
+            }
+            x.tick(1);
+            y.tick(1);
+        }
+        due("count(12)", x.count(12), 4);
+        due("job(3, 9)", x.job(3, 9), 2);
+        due("job(5, 9)", x.job(5, 9), 1);
+    }
+
+    private void aStateAmidLostReads() {
+        title("20 a state that was kept between lost reads");
+        DustRobot x = dusty(4, 0);
+        x.addTape(10, bits(1.0f));
+        x.read(4);
+        x.tick(5);
+        due("count(12)", x.count(12), 1);
+        x.keep();
+        for (int turn = 0; turn < 2; turn++) {
+            due("fate(4, 1)", x.fate(4, 1), 5);
+            x.tick(1);
+            due("job(4, 9)", x.job(4, 9), NONE);
+            x.tick(1);
+            due("job(4, 9)", x.job(4, 9), 2);
+            x.tick(3);
+            due("job(4, 3)", x.job(4, 3), 3);
+            x.restore();
+        }
+    }
+
+    private void countsOfSeveralDrives() {
+        title("34 counts of several drives");
+        DustRobot x = new DustRobot();
+        x.setLimit(bits(1000.0f));
+        x.addDrive(2);
+        x.addDrive(4);
+        x.setCeiling(0, bits(500.0f));
+        x.setCeiling(1, bits(500.0f));
+        x.addTape(3, bits(1.0f));
+        x.addCleaner(5, 9);
+        typeAll(x, "r0;r0;r0;r0;r0;r0;r0;r0;c0;c0;c1");
+        x.readJobs();
+        x.tick(100);
+        int lost = x.drive(0, 2) + x.drive(1, 2);
+        due("reads of both", x.drive(0, 1) > 0 && x.drive(1, 1) > 0 ? 1 : 0, 1);
+        due("lost reads of both", x.drive(0, 2) > 0 && x.drive(1, 2) > 0 ? 1 : 0, 1);
+        due("count(11)", x.count(11), x.drive(0, 1) + x.drive(1, 1));
+        due("count(11) of the tape", x.count(11), x.item(0, 4));
+        due("count(12)", x.count(12), lost);
+        due("count(12) of the tape", x.count(12), x.item(0, 6));
+        due("drive(0, 3)", x.drive(0, 3), 2);
+        due("drive(1, 3)", x.drive(1, 3), 1);
+        due("count(13)", x.count(13), 3);
+        due("count(17)", x.count(17), 6);
+    }
+
+    private void aFullRobot() {
+        title("2 to 20 a robot with all that it can hold");
+        DustRobot x = new DustRobot();
+        x.setLimit(bits(1000.0f));
+        for (int drive = 0; drive < 4; drive++) {
+            x.addDrive(drive * 7);
+        }
+        for (int item = 0; item < 9; item++) {
+            x.addTape(item, 0);
+            x.addCleaner(23 - item, 1);
+        }
+        x.keep();
+        for (int job = 0; job < 30; job++) {
+            due("read(0)", job % 3 == 2 ? x.clean(job % 4) : x.read(job % 9 * 2), job);
+        }
+        dueAct(x, "tick(100)", 12, () -> x.tick(100));
+        dueNothing(x, "clean(0)", FULL, () -> x.clean(0));
+        due("undo()", x.undo(), 3);
+        due("undo()", x.undo(), 2);
+        due("the last job is taken back: job(29, 0)", x.job(29, 0), UNKNOWN);
+        due("move(17, 12)", x.move(17, 12), 29);
+        due("fate(29, 0)", x.fate(29, 0), 2);
+        due("tick(100)", x.tick(100), 12);
+        due("restore()", x.restore(), 0);
+        due("next()", x.next(), NONE);
+        due("count(17)", x.count(17), 9);
+        due("clean(0)", x.clean(0), 0);
+        due("tick(100)", x.tick(100), 1);
+        due("the last item is the nearest: job(0, 8)", x.job(0, 8), 17);
     }
 
     // ---- what is told
@@ -1094,6 +1285,13 @@ final class PromisesTest {
         due("dust(0)", x.dust(0), 2.0f / (1 << 27));
         due("added by their numbers: meter(2)", x.meter(2), 0.0f + x.dust(0) + x.dust(1) + x.dust(2));
         due("meter(2)", x.meter(2), 3.0f);
+        x.setLimit(bits(999.0f));
+        x.setCeiling(0, bits(500.0f));
+        x.read(0);
+        x.read(1);
+        x.tick(16);
+        due("dust(0)", x.dust(0), 2.0f / (1 << 27) + 1.125f);
+        due("meter(2)", x.meter(2), 0.0f + x.dust(0) + x.dust(1) + x.dust(2));
         float meter = x.meter(0);
         x.tick(1);
         due("meter(0)", x.meter(0), meter * 0.75f);
