@@ -414,9 +414,7 @@ public final class DustRobot {
             case 4: case 5: case 6: case 7: case 8: return now.queue.jobsInState(what - 4);
             case 9: return now.store.itemCount;
             case 10: return now.store.driveCount;
-            case 11: return now.store.readsOfAll();
-            case 12: return now.store.lostReadsOfAll();
-            case 13: return now.store.cleaningsOfAll();
+            case 11: case 12: case 13: return now.store.sumOverDrives(what - 10);
             case 14: return now.pleas;
             case 15: return now.slotsGone;
             case 16: return now.idleTicks;
@@ -455,7 +453,7 @@ public final class DustRobot {
         return value;
     }
 
-    // The document's own words for "no such thing"; the compiler folds it, so no division is done.
+    // A constant in the document's own words: the compiler folds it, so no division is done.
     private static float noNumber() {
         return 0.0f / 0.0f;
     }
@@ -773,26 +771,11 @@ public final class DustRobot {
             return sum;
         }
 
-        int readsOfAll() {
+        /** The sum of what each drive tells: 1 for reads, 2 for lost ones, 3 for cleanings. */
+        int sumOverDrives(int what) {
             int sum = 0;
             for (int i = 0; i < driveCount; i++) {
-                sum += drives[i].reads;
-            }
-            return sum;
-        }
-
-        int lostReadsOfAll() {
-            int sum = 0;
-            for (int i = 0; i < driveCount; i++) {
-                sum += drives[i].lostReads;
-            }
-            return sum;
-        }
-
-        int cleaningsOfAll() {
-            int sum = 0;
-            for (int i = 0; i < driveCount; i++) {
-                sum += drives[i].cleanings;
+                sum += drives[i].tell(what);
             }
             return sum;
         }
