@@ -1,17 +1,8 @@
 /** For each promise of the document: ordinary inputs, the edges that it names, and wrong inputs. */
-final class PromisesTest {
-    private static final int UNKNOWN = DustRobot.UNKNOWN;
-    private static final int BAD_VALUE = DustRobot.BAD_VALUE;
-    private static final int FULL = DustRobot.FULL;
-    private static final int NOT_POSSIBLE = DustRobot.NOT_POSSIBLE;
-    private static final int NONE = DustRobot.NONE;
-    private static final int LEAST = Integer.MIN_VALUE;
-    private static final int MOST = Integer.MAX_VALUE;
+final class PromisesTest extends RobotChecks {
     private static final int MINUS_ZERO = bits(-0.0f);
     private static final int INFINITY = bits(Float.POSITIVE_INFINITY);
     private static final int NO_NUMBER = bits(Float.NaN);
-
-    private final Checks checks = new Checks();
 
     public static void main(String[] args) {
         PromisesTest test = new PromisesTest();
@@ -19,7 +10,7 @@ final class PromisesTest {
         test.promises9To14();
         test.promises15To20();
         test.promises21To34();
-        test.checks.end();
+        test.end();
     }
 
     private void promises1To8() {
@@ -88,7 +79,7 @@ final class PromisesTest {
 
     private void aNewObject() {
         title("1 a new object");
-        DustRobot x = new DustRobot();
+        Robot x = new Robot();
         for (int what = 0; what < 20; what++) {
             due("count(" + what + ")", x.count(what), what == 2 || what == 3 ? NONE : 0);
         }
@@ -115,20 +106,20 @@ final class PromisesTest {
 
     private void addDrive() {
         title("2 addDrive");
-        DustRobot x = new DustRobot();
-        dueNothing(x, "addDrive(-1)", UNKNOWN, () -> x.addDrive(-1));
-        dueNothing(x, "addDrive(24)", UNKNOWN, () -> x.addDrive(24));
-        dueNothing(x, "addDrive(least)", UNKNOWN, () -> x.addDrive(LEAST));
-        dueNothing(x, "addDrive(most)", UNKNOWN, () -> x.addDrive(MOST));
-        dueAct(x, "addDrive(23)", 0, () -> x.addDrive(23));
-        dueNothing(x, "addDrive(23)", NOT_POSSIBLE, () -> x.addDrive(23));
-        dueAct(x, "addDrive(0)", 1, () -> x.addDrive(0));
+        Robot x = new Robot();
+        dueNothing(x, UNKNOWN, r -> r.addDrive(-1));
+        dueNothing(x, UNKNOWN, r -> r.addDrive(24));
+        dueNothing(x, UNKNOWN, r -> r.addDrive(LEAST));
+        dueNothing(x, UNKNOWN, r -> r.addDrive(MOST));
+        dueAct(x, 0, r -> r.addDrive(23));
+        dueNothing(x, NOT_POSSIBLE, r -> r.addDrive(23));
+        dueAct(x, 1, r -> r.addDrive(0));
         due("addTape beside a drive", x.addTape(5, 0), 0);
-        dueAct(x, "addDrive(5)", 2, () -> x.addDrive(5));
-        dueAct(x, "addDrive(7)", 3, () -> x.addDrive(7));
-        dueNothing(x, "addDrive(8)", FULL, () -> x.addDrive(8));
-        dueNothing(x, "addDrive(7)", NOT_POSSIBLE, () -> x.addDrive(7));
-        dueNothing(x, "addDrive(24)", UNKNOWN, () -> x.addDrive(24));
+        dueAct(x, 2, r -> r.addDrive(5));
+        dueAct(x, 3, r -> r.addDrive(7));
+        dueNothing(x, FULL, r -> r.addDrive(8));
+        dueNothing(x, NOT_POSSIBLE, r -> r.addDrive(7));
+        dueNothing(x, UNKNOWN, r -> r.addDrive(24));
         int[] begun = {23, 0, 0, 0, NONE, 0};
         for (int what = 0; what < begun.length; what++) {
             due("drive(0, " + what + ")", x.drive(0, what), begun[what]);
@@ -141,23 +132,23 @@ final class PromisesTest {
 
     private void addTape() {
         title("3 addTape");
-        DustRobot x = new DustRobot();
+        Robot x = new Robot();
         int half = bits(0.5f);
         int[] wrong = {MINUS_ZERO, bits(1.0f) + 1, bits(-0.5f), INFINITY, NO_NUMBER, -1, MOST, bits(2.0f), LEAST + 1,
             bits(Float.NEGATIVE_INFINITY)};
         for (int frailty : wrong) {
-            dueNothing(x, "addTape(0, " + frailty + ")", BAD_VALUE, () -> x.addTape(0, frailty));
+            dueNothing(x, BAD_VALUE, r -> r.addTape(0, frailty));
         }
-        dueNothing(x, "addTape(-1, half)", UNKNOWN, () -> x.addTape(-1, half));
-        dueNothing(x, "addTape(24, wrong)", UNKNOWN, () -> x.addTape(24, NO_NUMBER));
-        dueAct(x, "addTape(0, 0.0f)", 0, () -> x.addTape(0, 0));
-        dueAct(x, "addTape(23, 1.0f)", 1, () -> x.addTape(23, bits(1.0f)));
-        dueAct(x, "addTape(1, the least)", 2, () -> x.addTape(1, 1));
-        dueAct(x, "addTape(2, half)", 3, () -> x.addTape(2, half));
+        dueNothing(x, UNKNOWN, r -> r.addTape(-1, half));
+        dueNothing(x, UNKNOWN, r -> r.addTape(24, NO_NUMBER));
+        dueAct(x, 0, r -> r.addTape(0, 0));
+        dueAct(x, 1, r -> r.addTape(23, bits(1.0f)));
+        dueAct(x, 2, r -> r.addTape(1, 1));
+        dueAct(x, 3, r -> r.addTape(2, half));
         due("item(3, 5)", x.item(3, 5), half);
         due("item(2, 5)", x.item(2, 5), 1);
-        dueNothing(x, "addTape(2, half)", NOT_POSSIBLE, () -> x.addTape(2, half));
-        dueNothing(x, "addTape(2, wrong)", BAD_VALUE, () -> x.addTape(2, MINUS_ZERO));
+        dueNothing(x, NOT_POSSIBLE, r -> r.addTape(2, half));
+        dueNothing(x, BAD_VALUE, r -> r.addTape(2, MINUS_ZERO));
         int[] begun = {0, 2, 0, NONE, 0, half, 0, 0};
         for (int what = 0; what < begun.length; what++) {
             due("item(3, " + what + ")", x.item(3, what), begun[what]);
@@ -165,46 +156,46 @@ final class PromisesTest {
         for (int item = 4; item < 18; item++) {
             due("addTape(" + item + ")", x.addTape(item, half), item);
         }
-        dueNothing(x, "addTape(18, half)", FULL, () -> x.addTape(18, half));
-        dueNothing(x, "addTape(17, half)", NOT_POSSIBLE, () -> x.addTape(17, half));
-        dueNothing(x, "addTape(18, wrong)", BAD_VALUE, () -> x.addTape(18, -1));
-        dueNothing(x, "addCleaner(18, 1)", FULL, () -> x.addCleaner(18, 1));
+        dueNothing(x, FULL, r -> r.addTape(18, half));
+        dueNothing(x, NOT_POSSIBLE, r -> r.addTape(17, half));
+        dueNothing(x, BAD_VALUE, r -> r.addTape(18, -1));
+        dueNothing(x, FULL, r -> r.addCleaner(18, 1));
         due("count(9)", x.count(9), 18);
     }
 
     private void aSlotIsAimedAt() {
         title("3, 4 a slot to which an item is moved just now");
-        DustRobot x = new DustRobot();
+        Robot x = new Robot();
         x.addTape(3, 0);
         x.move(0, 6);
         due("waiting: addTape(6)", x.addTape(6, 0), 1);
         x.undo();
         x.tick(1);
         for (int step = 1; step < 4; step++) {
-            dueNothing(x, "addTape(6)", NOT_POSSIBLE, () -> x.addTape(6, 0));
-            dueNothing(x, "addCleaner(6)", NOT_POSSIBLE, () -> x.addCleaner(6, 1));
-            dueNothing(x, "addCleaner(6, 0)", BAD_VALUE, () -> x.addCleaner(6, 0));
-            dueNothing(x, "addTape(3)", NOT_POSSIBLE, () -> x.addTape(3, 0));
-            dueNothing(x, "addCleaner(3)", NOT_POSSIBLE, () -> x.addCleaner(3, 1));
+            dueNothing(x, NOT_POSSIBLE, r -> r.addTape(6, 0));
+            dueNothing(x, NOT_POSSIBLE, r -> r.addCleaner(6, 1));
+            dueNothing(x, BAD_VALUE, r -> r.addCleaner(6, 0));
+            dueNothing(x, NOT_POSSIBLE, r -> r.addTape(3, 0));
+            dueNothing(x, NOT_POSSIBLE, r -> r.addCleaner(3, 1));
             x.tick(1);
         }
-        dueNothing(x, "addTape(6)", NOT_POSSIBLE, () -> x.addTape(6, 0));
-        dueAct(x, "addTape(3)", 1, () -> x.addTape(3, 0));
+        dueNothing(x, NOT_POSSIBLE, r -> r.addTape(6, 0));
+        dueAct(x, 1, r -> r.addTape(3, 0));
     }
 
     private void addCleaner() {
         title("4 addCleaner");
-        DustRobot x = new DustRobot();
-        dueNothing(x, "addCleaner(-1, 0)", UNKNOWN, () -> x.addCleaner(-1, 0));
-        dueNothing(x, "addCleaner(24, 1)", UNKNOWN, () -> x.addCleaner(24, 1));
+        Robot x = new Robot();
+        dueNothing(x, UNKNOWN, r -> r.addCleaner(-1, 0));
+        dueNothing(x, UNKNOWN, r -> r.addCleaner(24, 1));
         for (int uses : new int[] {0, 51, -1, LEAST, MOST}) {
-            dueNothing(x, "addCleaner(0, " + uses + ")", BAD_VALUE, () -> x.addCleaner(0, uses));
+            dueNothing(x, BAD_VALUE, r -> r.addCleaner(0, uses));
         }
-        dueAct(x, "addCleaner(0, 1)", 0, () -> x.addCleaner(0, 1));
-        dueAct(x, "addCleaner(23, 50)", 1, () -> x.addCleaner(23, 50));
-        dueNothing(x, "addCleaner(23, 50)", NOT_POSSIBLE, () -> x.addCleaner(23, 50));
-        dueNothing(x, "addCleaner(23, 51)", BAD_VALUE, () -> x.addCleaner(23, 51));
-        dueNothing(x, "addTape(23, 0)", NOT_POSSIBLE, () -> x.addTape(23, 0));
+        dueAct(x, 0, r -> r.addCleaner(0, 1));
+        dueAct(x, 1, r -> r.addCleaner(23, 50));
+        dueNothing(x, NOT_POSSIBLE, r -> r.addCleaner(23, 50));
+        dueNothing(x, BAD_VALUE, r -> r.addCleaner(23, 51));
+        dueNothing(x, NOT_POSSIBLE, r -> r.addTape(23, 0));
         int[] begun = {1, 23, 0, NONE, 50, 0, 0, 0};
         for (int what = 0; what < begun.length; what++) {
             due("item(1, " + what + ")", x.item(1, what), begun[what]);
@@ -212,71 +203,71 @@ final class PromisesTest {
         for (int item = 2; item < 18; item++) {
             due("addCleaner(" + item + ")", x.addCleaner(item, item), item);
         }
-        dueNothing(x, "addCleaner(18, 1)", FULL, () -> x.addCleaner(18, 1));
-        dueNothing(x, "addCleaner(17, 1)", NOT_POSSIBLE, () -> x.addCleaner(17, 1));
-        dueNothing(x, "addTape(18, 0)", FULL, () -> x.addTape(18, 0));
+        dueNothing(x, FULL, r -> r.addCleaner(18, 1));
+        dueNothing(x, NOT_POSSIBLE, r -> r.addCleaner(17, 1));
+        dueNothing(x, FULL, r -> r.addTape(18, 0));
         due("count(17)", x.count(17), 51 + 152);
     }
 
     private void refill() {
         title("5 refill");
-        DustRobot x = new DustRobot();
+        Robot x = new Robot();
         x.addTape(1, 0);
         x.addCleaner(2, 7);
-        dueNothing(x, "refill(-1, 0)", UNKNOWN, () -> x.refill(-1, 0));
-        dueNothing(x, "refill(2, 1)", UNKNOWN, () -> x.refill(2, 1));
-        dueNothing(x, "refill(0, 0)", BAD_VALUE, () -> x.refill(0, 0));
-        dueNothing(x, "refill(0, 1)", NOT_POSSIBLE, () -> x.refill(0, 1));
-        dueNothing(x, "refill(1, 0)", BAD_VALUE, () -> x.refill(1, 0));
-        dueNothing(x, "refill(1, 51)", BAD_VALUE, () -> x.refill(1, 51));
-        dueNothing(x, "refill(1, 7)", NONE, () -> x.refill(1, 7));
-        dueAct(x, "refill(1, 1)", 7, () -> x.refill(1, 1));
-        dueAct(x, "refill(1, 50)", 1, () -> x.refill(1, 50));
+        dueNothing(x, UNKNOWN, r -> r.refill(-1, 0));
+        dueNothing(x, UNKNOWN, r -> r.refill(2, 1));
+        dueNothing(x, BAD_VALUE, r -> r.refill(0, 0));
+        dueNothing(x, NOT_POSSIBLE, r -> r.refill(0, 1));
+        dueNothing(x, BAD_VALUE, r -> r.refill(1, 0));
+        dueNothing(x, BAD_VALUE, r -> r.refill(1, 51));
+        dueNothing(x, NONE, r -> r.refill(1, 7));
+        dueAct(x, 7, r -> r.refill(1, 1));
+        dueAct(x, 1, r -> r.refill(1, 50));
         due("item(1, 4)", x.item(1, 4), 50);
     }
 
     private void setLimit() {
         title("6 setLimit");
-        DustRobot x = new DustRobot();
+        Robot x = new Robot();
         int[] wrong = {bits(1.0f) - 1, bits(1000.0f) + 1, INFINITY, NO_NUMBER, 0, MINUS_ZERO, bits(-20.0f), -1, MOST};
         for (int limit : wrong) {
-            dueNothing(x, "setLimit(" + limit + ")", BAD_VALUE, () -> x.setLimit(limit));
+            dueNothing(x, BAD_VALUE, r -> r.setLimit(limit));
         }
-        dueNothing(x, "setLimit(20)", NONE, () -> x.setLimit(bits(20.0f)));
+        dueNothing(x, NONE, r -> r.setLimit(bits(20.0f)));
         float[] right = {1.0f, 1000.0f, Math.nextUp(1.0f), Math.nextDown(1000.0f), 3.3f, 511.99997f, 20.0f};
         for (float limit : right) {
-            dueAct(x, "setLimit(" + limit + ")", 1, () -> x.setLimit(bits(limit)));
+            dueAct(x, 1, r -> r.setLimit(bits(limit)));
             due("meter(1)", x.meter(1), limit);
-            dueNothing(x, "setLimit(" + limit + ") again", NONE, () -> x.setLimit(bits(limit)));
+            dueNothing(x, NONE, r -> r.setLimit(bits(limit)));
         }
     }
 
     private void setCeiling() {
         title("7 setCeiling");
-        DustRobot x = new DustRobot();
+        Robot x = new Robot();
         x.addDrive(3);
         x.addDrive(4);
-        dueNothing(x, "setCeiling(-1, wrong)", UNKNOWN, () -> x.setCeiling(-1, 0));
-        dueNothing(x, "setCeiling(2, 9)", UNKNOWN, () -> x.setCeiling(2, bits(9.0f)));
+        dueNothing(x, UNKNOWN, r -> r.setCeiling(-1, 0));
+        dueNothing(x, UNKNOWN, r -> r.setCeiling(2, bits(9.0f)));
         int[] wrong = {bits(1.0f) - 1, bits(500.0f) + 1, INFINITY, NO_NUMBER, 0, MINUS_ZERO, bits(-8.0f), -1, MOST};
         for (int ceiling : wrong) {
-            dueNothing(x, "setCeiling(0, " + ceiling + ")", BAD_VALUE, () -> x.setCeiling(0, ceiling));
+            dueNothing(x, BAD_VALUE, r -> r.setCeiling(0, ceiling));
         }
-        dueNothing(x, "setCeiling(0, 8)", NONE, () -> x.setCeiling(0, bits(8.0f)));
+        dueNothing(x, NONE, r -> r.setCeiling(0, bits(8.0f)));
         for (float ceiling : new float[] {1.0f, 500.0f, Math.nextUp(1.0f), Math.nextDown(500.0f), 7.7f}) {
-            dueAct(x, "setCeiling(1, " + ceiling + ")", 1, () -> x.setCeiling(1, bits(ceiling)));
+            dueAct(x, 1, r -> r.setCeiling(1, bits(ceiling)));
             due("ceiling(1)", x.ceiling(1), ceiling);
-            dueNothing(x, "setCeiling(1, " + ceiling + ") again", NONE, () -> x.setCeiling(1, bits(ceiling)));
+            dueNothing(x, NONE, r -> r.setCeiling(1, bits(ceiling)));
         }
         due("ceiling(0)", x.ceiling(0), 8.0f);
     }
 
     private void setOrder() {
         title("8 setOrder");
-        DustRobot x = new DustRobot();
+        Robot x = new Robot();
         int[][] wrong = {{-1, 0}, {0, -1}, {3, 0}, {0, 3}, {0, 0}, {1, 1}, {2, 2}, {LEAST, MOST}};
         for (int[] pair : wrong) {
-            dueNothing(x, "setOrder(" + pair[0] + ", " + pair[1] + ")", BAD_VALUE, () -> x.setOrder(pair[0], pair[1]));
+            dueNothing(x, BAD_VALUE, r -> r.setOrder(pair[0], pair[1]));
         }
         int[][] right = {{0, 2, 1}, {1, 0, 2}, {1, 2, 0}, {2, 0, 1}, {2, 1, 0}, {0, 1, 2}};
         x.addDrive(0);
@@ -286,8 +277,8 @@ final class PromisesTest {
         x.move(0, 5);
         for (int[] kinds : right) {
             String call = "setOrder(" + kinds[0] + ", " + kinds[1] + ")";
-            dueAct(x, call, kinds[2], () -> x.setOrder(kinds[0], kinds[1]));
-            dueNothing(x, call + " again", NONE, () -> x.setOrder(kinds[0], kinds[1]));
+            dueAct(x, kinds[2], r -> r.setOrder(kinds[0], kinds[1]));
+            dueNothing(x, NONE, r -> r.setOrder(kinds[0], kinds[1]));
             for (int place = 0; place < 3; place++) {
                 due(call + ", order(" + place + ")", x.order(place), kinds[place]);
             }
@@ -298,62 +289,62 @@ final class PromisesTest {
 
     private void read() {
         title("9 read");
-        DustRobot x = new DustRobot();
+        Robot x = new Robot();
         x.addTape(3, 0);
         x.addCleaner(4, 1);
-        dueNothing(x, "read(-1)", UNKNOWN, () -> x.read(-1));
-        dueNothing(x, "read(2)", UNKNOWN, () -> x.read(2));
-        dueNothing(x, "read(1)", NOT_POSSIBLE, () -> x.read(1));
+        dueNothing(x, UNKNOWN, r -> r.read(-1));
+        dueNothing(x, UNKNOWN, r -> r.read(2));
+        dueNothing(x, NOT_POSSIBLE, r -> r.read(1));
         for (int job = 0; job < 30; job++) {
-            dueAct(x, "read(0)", job, () -> x.read(0));
+            dueAct(x, job, r -> r.read(0));
         }
         dueNewJob(x, 29, 0, 0, NONE);
-        dueNothing(x, "read(0)", FULL, () -> x.read(0));
-        dueNothing(x, "read(1)", NOT_POSSIBLE, () -> x.read(1));
-        dueNothing(x, "read(2)", UNKNOWN, () -> x.read(2));
+        dueNothing(x, FULL, r -> r.read(0));
+        dueNothing(x, NOT_POSSIBLE, r -> r.read(1));
+        dueNothing(x, UNKNOWN, r -> r.read(2));
         due("undo()", x.undo(), 3);
         due("the one that was FULL is not in the history: count(4)", x.count(4), 29);
         x.read(0);
         x.withdraw(7);
-        dueNothing(x, "read(0) behind a withdrawn one", FULL, () -> x.read(0));
+        dueNothing(x, FULL, r -> r.read(0));
     }
 
     private void clean() {
         title("10 clean");
-        DustRobot x = new DustRobot();
+        Robot x = new Robot();
         x.addDrive(3);
-        dueNothing(x, "clean(-1)", UNKNOWN, () -> x.clean(-1));
-        dueNothing(x, "clean(1)", UNKNOWN, () -> x.clean(1));
+        dueNothing(x, UNKNOWN, r -> r.clean(-1));
+        dueNothing(x, UNKNOWN, r -> r.clean(1));
         for (int job = 0; job < 30; job++) {
-            dueAct(x, "clean(0)", job, () -> x.clean(0));
+            dueAct(x, job, r -> r.clean(0));
         }
         dueNewJob(x, 3, 1, 0, NONE);
-        dueNothing(x, "clean(0)", FULL, () -> x.clean(0));
-        dueNothing(x, "clean(1)", UNKNOWN, () -> x.clean(1));
+        dueNothing(x, FULL, r -> r.clean(0));
+        dueNothing(x, UNKNOWN, r -> r.clean(1));
     }
 
     private void move() {
         title("11 move");
-        DustRobot x = new DustRobot();
+        Robot x = new Robot();
         x.addTape(3, 0);
         x.addCleaner(4, 1);
-        dueNothing(x, "move(-1, 0)", UNKNOWN, () -> x.move(-1, 0));
-        dueNothing(x, "move(2, 0)", UNKNOWN, () -> x.move(2, 0));
-        dueNothing(x, "move(0, -1)", UNKNOWN, () -> x.move(0, -1));
-        dueNothing(x, "move(0, 24)", UNKNOWN, () -> x.move(0, 24));
-        dueAct(x, "move(1, 23)", 0, () -> x.move(1, 23));
+        dueNothing(x, UNKNOWN, r -> r.move(-1, 0));
+        dueNothing(x, UNKNOWN, r -> r.move(2, 0));
+        dueNothing(x, UNKNOWN, r -> r.move(0, -1));
+        dueNothing(x, UNKNOWN, r -> r.move(0, 24));
+        dueAct(x, 0, r -> r.move(1, 23));
         dueNewJob(x, 0, 2, 1, 23);
-        dueAct(x, "move(0, 0)", 1, () -> x.move(0, 0));
-        dueAct(x, "move(0, 4)", 2, () -> x.move(0, 4));
+        dueAct(x, 1, r -> r.move(0, 0));
+        dueAct(x, 2, r -> r.move(0, 4));
         for (int job = 3; job < 30; job++) {
             due("move(0, 3)", x.move(0, 3), job);
         }
-        dueNothing(x, "move(0, 3)", FULL, () -> x.move(0, 3));
-        dueNothing(x, "move(0, 24)", UNKNOWN, () -> x.move(0, 24));
-        dueNothing(x, "move(2, 3)", UNKNOWN, () -> x.move(2, 3));
+        dueNothing(x, FULL, r -> r.move(0, 3));
+        dueNothing(x, UNKNOWN, r -> r.move(0, 24));
+        dueNothing(x, UNKNOWN, r -> r.move(2, 3));
     }
 
-    private void dueNewJob(DustRobot x, int job, int kind, int target, int slot) {
+    private void dueNewJob(Robot x, int job, int kind, int target, int slot) {
         int[] begun = {kind, target, slot, 0, NONE, NONE, NONE, NONE, NONE, NONE, 0, 0};
         for (int what = 0; what < begun.length; what++) {
             due("job(" + job + ", " + what + ")", x.job(job, what), begun[what]);
@@ -362,19 +353,19 @@ final class PromisesTest {
 
     private void putOff() {
         title("12 putOff");
-        DustRobot x = new DustRobot();
+        Robot x = new Robot();
         x.addTape(3, 0);
         x.move(0, 4);
         x.move(0, 5);
-        dueNothing(x, "putOff(-1, -1)", UNKNOWN, () -> x.putOff(-1, -1));
-        dueNothing(x, "putOff(2, 5)", UNKNOWN, () -> x.putOff(2, 5));
-        dueNothing(x, "putOff(0, -1)", BAD_VALUE, () -> x.putOff(0, -1));
-        dueNothing(x, "putOff(0, 10000)", BAD_VALUE, () -> x.putOff(0, 10000));
-        dueNothing(x, "putOff(0, 0)", NONE, () -> x.putOff(0, 0));
-        dueAct(x, "putOff(0, 9999)", 0, () -> x.putOff(0, 9999));
-        dueNothing(x, "putOff(0, 9999)", NONE, () -> x.putOff(0, 9999));
-        dueAct(x, "putOff(0, 3)", 9999, () -> x.putOff(0, 3));
-        dueAct(x, "putOff(1, 2)", 0, () -> x.putOff(1, 2));
+        dueNothing(x, UNKNOWN, r -> r.putOff(-1, -1));
+        dueNothing(x, UNKNOWN, r -> r.putOff(2, 5));
+        dueNothing(x, BAD_VALUE, r -> r.putOff(0, -1));
+        dueNothing(x, BAD_VALUE, r -> r.putOff(0, 10000));
+        dueNothing(x, NONE, r -> r.putOff(0, 0));
+        dueAct(x, 0, r -> r.putOff(0, 9999));
+        dueNothing(x, NONE, r -> r.putOff(0, 9999));
+        dueAct(x, 9999, r -> r.putOff(0, 3));
+        dueAct(x, 0, r -> r.putOff(1, 2));
         due("job(0, 11)", x.job(0, 11), 3);
         x.tick(2);
         due("put off: count(3)", x.count(3), NONE);
@@ -383,36 +374,36 @@ final class PromisesTest {
         due("no longer put off: count(3)", x.count(3), 1);
         due("job(1, 4)", x.job(1, 4), 2);
         due("job(1, 11)", x.job(1, 11), 2);
-        dueNothing(x, "under way: putOff(1, 9)", NOT_POSSIBLE, () -> x.putOff(1, 9));
-        dueNothing(x, "under way: putOff(1, 2)", NOT_POSSIBLE, () -> x.putOff(1, 2));
-        dueNothing(x, "under way: putOff(1, -1)", BAD_VALUE, () -> x.putOff(1, -1));
-        dueAct(x, "putOff(0, 0)", 3, () -> x.putOff(0, 0));
+        dueNothing(x, "under way: ", NOT_POSSIBLE, r -> r.putOff(1, 9));
+        dueNothing(x, "under way: ", NOT_POSSIBLE, r -> r.putOff(1, 2));
+        dueNothing(x, "under way: ", BAD_VALUE, r -> r.putOff(1, -1));
+        dueAct(x, 3, r -> r.putOff(0, 0));
         x.tick(3);
-        dueNothing(x, "done: putOff(1, 9)", NOT_POSSIBLE, () -> x.putOff(1, 9));
+        dueNothing(x, "done: ", NOT_POSSIBLE, r -> r.putOff(1, 9));
         x.withdraw(0);
-        dueNothing(x, "withdrawn: putOff(0, 9)", NOT_POSSIBLE, () -> x.putOff(0, 9));
+        dueNothing(x, "withdrawn: ", NOT_POSSIBLE, r -> r.putOff(0, 9));
     }
 
     private void withdraw() {
         title("13 withdraw");
-        DustRobot x = new DustRobot();
+        Robot x = new Robot();
         x.addTape(3, 0);
         for (int job = 0; job < 4; job++) {
             x.move(0, 4 + job);
         }
-        dueNothing(x, "withdraw(-1)", UNKNOWN, () -> x.withdraw(-1));
-        dueNothing(x, "withdraw(4)", UNKNOWN, () -> x.withdraw(4));
+        dueNothing(x, UNKNOWN, r -> r.withdraw(-1));
+        dueNothing(x, UNKNOWN, r -> r.withdraw(4));
         x.tick(1);
-        dueNothing(x, "under way: withdraw(0)", NOT_POSSIBLE, () -> x.withdraw(0));
-        dueAct(x, "withdraw(2)", 2, () -> x.withdraw(2));
+        dueNothing(x, "under way: ", NOT_POSSIBLE, r -> r.withdraw(0));
+        dueAct(x, 2, r -> r.withdraw(2));
         due("job(2, 3)", x.job(2, 3), 4);
         due("job(2, 4)", x.job(2, 4), NONE);
         due("job(2, 5)", x.job(2, 5), 1);
-        dueNothing(x, "withdrawn: withdraw(2)", NOT_POSSIBLE, () -> x.withdraw(2));
+        dueNothing(x, "withdrawn: ", NOT_POSSIBLE, r -> r.withdraw(2));
         x.tick(3);
-        dueNothing(x, "done: withdraw(0)", NOT_POSSIBLE, () -> x.withdraw(0));
-        dueAct(x, "withdraw(1)", 1, () -> x.withdraw(1));
-        dueAct(x, "withdraw(3)", 0, () -> x.withdraw(3));
+        dueNothing(x, "done: ", NOT_POSSIBLE, r -> r.withdraw(0));
+        dueAct(x, 1, r -> r.withdraw(1));
+        dueAct(x, 0, r -> r.withdraw(3));
         due("count(8)", x.count(8), 3);
         x.tick(5);
         due("homeOf(4)", x.homeOf(4), 0);
@@ -421,17 +412,17 @@ final class PromisesTest {
 
     private void tick() {
         title("14 tick");
-        DustRobot x = new DustRobot();
+        Robot x = new Robot();
         x.addTape(3, 0);
         for (int ticks : new int[] {0, -1, 101, LEAST, MOST}) {
-            dueNothing(x, "tick(" + ticks + ")", BAD_VALUE, () -> x.tick(ticks));
+            dueNothing(x, BAD_VALUE, r -> r.tick(ticks));
         }
         x.move(0, 4);
         x.move(0, 5);
         x.move(0, 6);
-        dueAct(x, "tick(3)", 0, () -> x.tick(3));
-        dueAct(x, "tick(1)", 1, () -> x.tick(1));
-        dueAct(x, "tick(100)", 2, () -> x.tick(100));
+        dueAct(x, 0, r -> r.tick(3));
+        dueAct(x, 1, r -> r.tick(1));
+        dueAct(x, 2, r -> r.tick(100));
         due("count(0)", x.count(0), 104);
         due("count(6)", x.count(6), 3);
         due("count(16)", x.count(16), 92);
@@ -442,7 +433,7 @@ final class PromisesTest {
 
     private void stepsOfAJobToRead() {
         title("14 the steps of a job to read");
-        DustRobot x = new DustRobot();
+        Robot x = new Robot();
         x.addDrive(4);
         x.addTape(2, 0);
         x.read(0);
@@ -473,7 +464,7 @@ final class PromisesTest {
 
     private void stepsOfAJobToClean() {
         title("14 the steps of a job to clean");
-        DustRobot x = new DustRobot();
+        Robot x = new Robot();
         x.addDrive(4);
         x.addCleaner(2, 2);
         x.addTape(4, 0);
@@ -503,7 +494,7 @@ final class PromisesTest {
         dueEvent(x, 2, 0, 1, NONE, 8);
     }
 
-    private void dueCarried(DustRobot x, int[] row) {
+    private void dueCarried(Robot x, int[] row) {
         due("count(1)", x.count(1), row[0]);
         due("count(2)", x.count(2), row[1]);
         due("item(0, 2)", x.item(0, 2), row[2]);
@@ -512,16 +503,9 @@ final class PromisesTest {
         due("item(0, 4)", x.item(0, 4), row[5]);
     }
 
-    private void dueEvent(DustRobot x, int back, int kind, int job, int drive, int tick) {
-        int[] told = {kind, job, drive, tick};
-        for (int what = 0; what < told.length; what++) {
-            due("event(" + back + ", " + what + ")", x.event(back, what), told[what]);
-        }
-    }
-
     private void stepsOfAJobToMove() {
         title("14 the steps of a job to move");
-        DustRobot x = new DustRobot();
+        Robot x = new Robot();
         x.addTape(2, 0);
         x.addCleaner(9, 1);
         x.move(0, 5);
@@ -546,7 +530,7 @@ final class PromisesTest {
 
     private void pleas() {
         title("14 pleas");
-        DustRobot x = new DustRobot();
+        Robot x = new Robot();
         x.addTape(10, 0);
         x.setLimit(bits(5.0f));
         x.move(0, 15);
@@ -577,7 +561,7 @@ final class PromisesTest {
         due("tick(2)", x.tick(2), 1);
         due("count(14)", x.count(14), 157);
         title("14 to go 0 slots is allowed above the limit");
-        DustRobot y = dusty(1, 0);
+        Robot y = dusty(1, 0);
         y.addTape(20, 0);
         y.addDrive(20);
         y.move(1, 20);
@@ -591,22 +575,9 @@ final class PromisesTest {
         due("count(14)", y.count(14), 0);
     }
 
-    /** A robot with a drive at 0 and tapes of the frailty, one a slot from 0 on, all read once, dust as many. */
-    private static DustRobot dusty(int tapes, int frailty) {
-        DustRobot x = new DustRobot();
-        x.setLimit(bits(1000.0f));
-        x.addDrive(0);
-        for (int tape = 0; tape < tapes; tape++) {
-            x.addTape(tape, frailty);
-            x.read(tape);
-            x.tick(8);
-        }
-        return x;
-    }
-
     private void lostReads() {
         title("14 lost reads");
-        DustRobot x = dusty(4, 0);
+        Robot x = dusty(4, 0);
         x.addTape(10, bits(1.0f));
         x.read(4);
         due("tick(4)", x.tick(4), 0);
@@ -640,7 +611,7 @@ final class PromisesTest {
 
     private void borderOfALostRead() {
         title("14 the border of a lost read");
-        DustRobot x = dusty(6, 0);
+        Robot x = dusty(6, 0);
         x.addTape(10, bits(0.5f));
         x.addTape(11, bits(0.5f) + 1);
         x.keep();
@@ -655,7 +626,7 @@ final class PromisesTest {
 
     private void tooMuchDust() {
         title("14 a drive that is too dusty at the read");
-        DustRobot x = dusty(2, 0);
+        Robot x = dusty(2, 0);
         x.read(0);
         x.tick(4);
         x.setCeiling(0, bits(2.0f) - 1);
@@ -673,13 +644,13 @@ final class PromisesTest {
         due("job(2, 9)", x.job(2, 9), 1);
         dueEvent(x, 0, 6, 2, NONE, 23);
         title("14 a drive with its ceiling's dust");
-        DustRobot y = dusty(2, 0);
+        Robot y = dusty(2, 0);
         y.read(0);
         y.setCeiling(0, bits(2.0f));
         due("tick(8)", y.tick(8), 1);
         due("dust(0)", y.dust(0), 3.125f);
         title("14 a drive that becomes too dusty between lost reads");
-        DustRobot z = dusty(5, 0);
+        Robot z = dusty(5, 0);
         z.addTape(10, bits(1.0f));
         z.setCeiling(0, bits(5.5f));
         z.read(5);
@@ -690,7 +661,7 @@ final class PromisesTest {
 
     private void whichDriveIsTaken() {
         title("14 which drive a job to read takes");
-        DustRobot x = new DustRobot();
+        Robot x = new Robot();
         x.setLimit(bits(1000.0f));
         x.addDrive(20);
         x.addDrive(1);
@@ -719,7 +690,7 @@ final class PromisesTest {
 
     private void whichCleanerIsTaken() {
         title("14 which cleaner a job to clean takes");
-        DustRobot x = new DustRobot();
+        Robot x = new Robot();
         x.setLimit(bits(1000.0f));
         x.addDrive(12);
         x.addCleaner(15, 1);
@@ -750,18 +721,18 @@ final class PromisesTest {
 
     private void lastTick() {
         title("14 the last tick");
-        DustRobot x = new DustRobot();
+        Robot x = new Robot();
         for (int i = 0; i < 99; i++) {
             x.tick(100);
         }
         x.tick(99);
         due("count(0)", x.count(0), 9999);
-        dueNothing(x, "tick(2)", NOT_POSSIBLE, () -> x.tick(2));
-        dueNothing(x, "tick(101)", BAD_VALUE, () -> x.tick(101));
-        dueAct(x, "tick(1)", 0, () -> x.tick(1));
-        dueNothing(x, "tick(1)", NOT_POSSIBLE, () -> x.tick(1));
-        dueNothing(x, "tick(100)", NOT_POSSIBLE, () -> x.tick(100));
-        dueNothing(x, "tick(0)", BAD_VALUE, () -> x.tick(0));
+        dueNothing(x, NOT_POSSIBLE, r -> r.tick(2));
+        dueNothing(x, BAD_VALUE, r -> r.tick(101));
+        dueAct(x, 0, r -> r.tick(1));
+        dueNothing(x, NOT_POSSIBLE, r -> r.tick(1));
+        dueNothing(x, NOT_POSSIBLE, r -> r.tick(100));
+        dueNothing(x, BAD_VALUE, r -> r.tick(0));
         x.addTape(2, 0);
         x.move(0, 3);
         due("beyond the tick 10000: fate(0, 1)", x.fate(0, 1), 4);
@@ -770,21 +741,9 @@ final class PromisesTest {
 
     // ---- texts
 
-    private static void typeAll(DustRobot x, String text) {
-        for (int i = 0; i < text.length(); i++) {
-            x.type(text.charAt(i));
-        }
-    }
-
-    private static int answerTo(DustRobot x, String text) {
-        x.clearText();
-        typeAll(x, text);
-        return x.readJobs();
-    }
-
     private void type() {
         title("15 type");
-        DustRobot x = new DustRobot();
+        Robot x = new Robot();
         char[] any = {'r', ' ', 0, (char) 127, (char) 233, (char) 255, (char) 256, Character.MAX_VALUE};
         for (int i = 0; i < 60; i++) {
             due("type", x.type(any[i % any.length]), i + 1);
@@ -799,31 +758,31 @@ final class PromisesTest {
 
     private void clearText() {
         title("16 clearText");
-        DustRobot x = new DustRobot();
+        Robot x = new Robot();
         due("clearText()", x.clearText(), 0);
-        typeAll(x, "r0;");
+        x.typeAll("r0;");
         due("clearText()", x.clearText(), 3);
         due("count(19)", x.count(19), 0);
         due("clearText()", x.clearText(), 0);
         due("it is no act: count(18)", x.count(18), 0);
-        typeAll(x, "c1");
+        x.typeAll("c1");
         due("readJobs()", x.readJobs(), UNKNOWN);
     }
 
     private void readJobs() {
         title("17 readJobs");
-        DustRobot x = new DustRobot();
+        Robot x = new Robot();
         x.addDrive(3);
         x.addTape(1, 0);
         x.addCleaner(2, 4);
-        typeAll(x, "r0;c0;m1>23;m0>0");
-        dueAct(x, "readJobs()", 4, x::readJobs);
+        x.typeAll("r0;c0;m1>23;m0>0");
+        dueAct(x, 4, Robot::readJobs);
         dueNewJob(x, 0, 0, 0, NONE);
         dueNewJob(x, 1, 1, 0, NONE);
         dueNewJob(x, 2, 2, 1, 23);
         dueNewJob(x, 3, 2, 0, 0);
         due("the text stays: count(19)", x.count(19), 16);
-        dueAct(x, "readJobs()", 4, x::readJobs);
+        dueAct(x, 4, Robot::readJobs);
         due("count(4)", x.count(4), 8);
         due("one act: undo()", x.undo(), 3);
         due("count(4)", x.count(4), 4);
@@ -831,29 +790,29 @@ final class PromisesTest {
         String[] unknown = {"r2", "c1", "m2>0", "m0>24", "m0>99", "r0;r99", "r0;c9;r1", "m1>24;r1"};
         for (String text : unknown) {
             x.clearText();
-            typeAll(x, text);
-            dueNothing(x, text, UNKNOWN, x::readJobs);
+            x.typeAll(text);
+            dueNothing(x, UNKNOWN, Robot::readJobs);
         }
         for (String text : new String[] {"r1", "r0;r1;c9", "m1>0;r1;r2"}) {
             x.clearText();
-            typeAll(x, text);
-            dueNothing(x, text, NOT_POSSIBLE, x::readJobs);
+            x.typeAll(text);
+            dueNothing(x, NOT_POSSIBLE, Robot::readJobs);
         }
         for (int job = x.count(4); job < 29; job++) {
             x.read(0);
         }
-        due("r0;r0", answerTo(x, "r0;r0"), FULL);
-        due("r0;r1", answerTo(x, "r0;r1"), NOT_POSSIBLE);
-        due("r0;r2", answerTo(x, "r0;r2"), UNKNOWN);
-        due("r0;", answerTo(x, "r0;"), -103);
+        due("r0;r0", x.readJobsOf("r0;r0"), FULL);
+        due("r0;r1", x.readJobsOf("r0;r1"), NOT_POSSIBLE);
+        due("r0;r2", x.readJobsOf("r0;r2"), UNKNOWN);
+        due("r0;", x.readJobsOf("r0;"), -103);
         due("count(4)", x.count(4), 29);
-        due("c0", answerTo(x, "c0"), 1);
-        dueNothing(x, "c0", FULL, x::readJobs);
+        due("c0", x.readJobsOf("c0"), 1);
+        dueNothing(x, FULL, Robot::readJobs);
     }
 
     private void faultsOfTexts() {
         title("17 the faults of texts");
-        DustRobot x = new DustRobot();
+        Robot x = new Robot();
         x.addTape(10, 0);
         String[] texts = {"", "r", "c", "m", "x", "R0", "0", ";", " r0", "r0;", "r0;;", "r0 ", "r0;x", "r00", "r01",
             "r100", "r123", "m0", "m0>", "m0>0>", "m0;", "m00>1", "m0>00", "m0>05", "m10>230", "m>1", "c>", "r0>1",
@@ -864,26 +823,26 @@ final class PromisesTest {
             2, 3, 1, 2, 2, 1, 1, 2, 11, 1, 2,
             1, NONE, 2};
         for (int i = 0; i < texts.length; i++) {
-            due(texts[i], answerTo(x, texts[i]), faults[i] == NONE ? UNKNOWN : -100 - faults[i]);
+            due(texts[i], x.readJobsOf(texts[i]), faults[i] == NONE ? UNKNOWN : -100 - faults[i]);
         }
         due("count(18)", x.count(18), 1);
         StringBuilder longest = new StringBuilder("r0");
         while (longest.length() < 59) {
             longest.append(";r0");
         }
-        due("twenty jobs", answerTo(x, longest.toString()), 20);
+        due("twenty jobs", x.readJobsOf(longest.toString()), 20);
         x.undo();
         longest.append(';');
-        due("a fault behind 60 characters", answerTo(x, longest.toString()), -160);
+        due("a fault behind 60 characters", x.readJobsOf(longest.toString()), -160);
         longest.setCharAt(0, 'm');
-        due("m in place of r", answerTo(x, longest.toString()), -102);
+        due("m in place of r", x.readJobsOf(longest.toString()), -102);
     }
 
     // ---- history
 
     private void undo() {
         title("18 undo");
-        DustRobot x = new DustRobot();
+        Robot x = new Robot();
         String[] states = new String[8];
         for (int i = 0; i < 8; i++) {
             states[i] = Told.state(x);
@@ -902,7 +861,7 @@ final class PromisesTest {
         due("a number is given again: addTape", x.addTape(9, 0), 4);
         due("homeOf(9)", x.homeOf(9), 4);
         title("18 undo brings everything back");
-        DustRobot y = busy();
+        Robot y = crowded();
         for (int ticks = 1; ticks < 60; ticks += 7) {
             String before = Told.state(y);
             y.tick(ticks);
@@ -913,13 +872,13 @@ final class PromisesTest {
     }
 
     /** A robot with all kinds of things and jobs. */
-    private static DustRobot busy() {
-        DustRobot x = new DustRobot();
-        makeBusy(x);
+    private static Robot crowded() {
+        Robot x = new Robot();
+        crowd(x);
         return x;
     }
 
-    private static void makeBusy(DustRobot x) {
+    private static void crowd(Robot x) {
         x.addDrive(4);
         x.addDrive(19);
         for (int tape = 0; tape < 6; tape++) {
@@ -927,7 +886,7 @@ final class PromisesTest {
         }
         x.addCleaner(23, 3);
         x.addCleaner(11, 2);
-        typeAll(x, "r1;r2;r5;c0;r5;r5;m2>22;c1;r3;m7>10;r4;r5;c0;r5");
+        x.typeAll("r1;r2;r5;c0;r5;r5;m2>22;c1;r3;m7>10;r4;r5;c0;r5");
         x.readJobs();
         x.setCeiling(0, bits(5.0f));
         x.setLimit(bits(15.0f));
@@ -935,8 +894,8 @@ final class PromisesTest {
 
     private void keepAndRestore() {
         title("19 keep, 20 restore");
-        DustRobot x = busy();
-        dueNothing(x, "restore()", NONE, x::restore);
+        Robot x = crowded();
+        dueNothing(x, NONE, Robot::restore);
         x.tick(33);
         int states = x.count(18);
         due("keep()", x.keep(), 33);
@@ -947,7 +906,7 @@ final class PromisesTest {
         x.clearText();
         String later = Told.state(x);
         x.undo();
-        dueAct(x, "restore()", 33, x::restore);
+        dueAct(x, 33, Robot::restore);
         due("the state", Told.state(x), kept);
         due("the text is no part of it: count(19)", x.count(19), 0);
         x.undo();
@@ -963,16 +922,16 @@ final class PromisesTest {
         due("keep()", x.keep(), 37);
         kept = Told.state(x);
         x.tick(4);
-        dueAct(x, "restore()", 37, x::restore);
+        dueAct(x, 37, Robot::restore);
         due("the state", Told.state(x), kept);
-        dueAct(x, "restore() of what is so already", 37, x::restore);
+        dueAct(x, 37, Robot::restore);
     }
 
     private void numbersAreGivenAgain() {
         title("20 a robot that is brought back to its beginning is as new");
-        DustRobot x = new DustRobot();
+        Robot x = new Robot();
         x.keep();
-        makeBusy(x);
+        crowd(x);
         for (int i = 0; i < 4; i++) {
             x.tick(100);
         }
@@ -980,9 +939,9 @@ final class PromisesTest {
         due("some jobs are lost: count(7)", x.count(7) >= 1 ? 1 : 0, 1);
         due("restore()", x.restore(), 0);
         x.clearText();
-        due("the state", Told.state(x), Told.state(new DustRobot()));
-        makeBusy(x);
-        DustRobot fresh = busy();
+        due("the state", Told.state(x), Told.state(new Robot()));
+        crowd(x);
+        Robot fresh = crowded();
         for (int i = 0; i < 80; i++) {
             due("the state", Told.state(x), Told.state(fresh));
             x.tick(5);
@@ -992,7 +951,7 @@ final class PromisesTest {
 
     private void statesOfOtherThings() {
         title("18, 20 the same numbers stand for other things in each state");
-        DustRobot x = new DustRobot();
+        Robot x = new Robot();
         x.addDrive(4);
         x.addTape(2, bits(1.0f));
         x.read(0);
@@ -1017,7 +976,7 @@ final class PromisesTest {
         due("item(0, 0)", x.item(0, 0), 0);
         due("fate(0, 1)", x.fate(0, 1), NOT_POSSIBLE);
         title("18 what is added again has nothing of what was there");
-        DustRobot y = new DustRobot();
+        Robot y = new Robot();
         y.addTape(3, bits(1.0f));
         y.undo();
         y.addCleaner(3, 1);
@@ -1037,12 +996,12 @@ final class PromisesTest {
 
     private void aKeptStateGoesOn() {
         title("20 a state that was kept goes on as it would have");
-        DustRobot x = new DustRobot();
-        DustRobot y = new DustRobot();
-        for (DustRobot robot : new DustRobot[] {x, y}) {
+        Robot x = new Robot();
+        Robot y = new Robot();
+        for (Robot robot : new Robot[] {x, y}) {
             robot.addDrive(4);
             robot.addTape(2, bits(1.0f));
-            typeAll(robot, "r0;r0;r0;r0;m0>9;r0");
+            robot.typeAll("r0;r0;r0;r0;m0>9;r0");
             robot.readJobs();
             robot.tick(28);
         }
@@ -1053,7 +1012,7 @@ final class PromisesTest {
         x.addTape(5, 0);
         x.addDrive(7);
         x.addCleaner(20, 3);
-        due("other jobs", answerTo(x, "m0>1;m1>3;r0;c0;r0;r0"), 6);
+        due("other jobs", x.readJobsOf("m0>1;m1>3;r0;c0;r0;r0"), 6);
         x.tick(13);
         x.restore();
         for (int ticks = 0; ticks < 60; ticks++) {
@@ -1071,7 +1030,7 @@ final class PromisesTest {
 
     private void aStateAmidLostReads() {
         title("20 a state that was kept between lost reads");
-        DustRobot x = dusty(4, 0);
+        Robot x = dusty(4, 0);
         x.addTape(10, bits(1.0f));
         x.read(4);
         x.tick(5);
@@ -1091,7 +1050,7 @@ final class PromisesTest {
 
     private void countsOfSeveralDrives() {
         title("34 counts of several drives");
-        DustRobot x = new DustRobot();
+        Robot x = new Robot();
         x.setLimit(bits(1000.0f));
         x.addDrive(2);
         x.addDrive(4);
@@ -1099,7 +1058,7 @@ final class PromisesTest {
         x.setCeiling(1, bits(500.0f));
         x.addTape(3, bits(1.0f));
         x.addCleaner(5, 9);
-        typeAll(x, "r0;r0;r0;r0;r0;r0;r0;r0;c0;c0;c1");
+        x.typeAll("r0;r0;r0;r0;r0;r0;r0;r0;c0;c0;c1");
         x.readJobs();
         x.tick(100);
         int lost = x.drive(0, 2) + x.drive(1, 2);
@@ -1117,7 +1076,7 @@ final class PromisesTest {
 
     private void aFullRobot() {
         title("2 to 20 a robot with all that it can hold");
-        DustRobot x = new DustRobot();
+        Robot x = new Robot();
         x.setLimit(bits(1000.0f));
         for (int drive = 0; drive < 4; drive++) {
             x.addDrive(drive * 7);
@@ -1130,8 +1089,8 @@ final class PromisesTest {
         for (int job = 0; job < 30; job++) {
             due("read(0)", job % 3 == 2 ? x.clean(job % 4) : x.read(job % 9 * 2), job);
         }
-        dueAct(x, "tick(100)", 12, () -> x.tick(100));
-        dueNothing(x, "clean(0)", FULL, () -> x.clean(0));
+        dueAct(x, 12, r -> r.tick(100));
+        dueNothing(x, FULL, r -> r.clean(0));
         due("undo()", x.undo(), 3);
         due("undo()", x.undo(), 2);
         due("the last job is taken back: job(29, 0)", x.job(29, 0), UNKNOWN);
@@ -1150,7 +1109,7 @@ final class PromisesTest {
 
     private void item() {
         title("21 item");
-        DustRobot x = new DustRobot();
+        Robot x = new Robot();
         x.addDrive(0);
         x.addTape(3, bits(0.25f));
         x.addCleaner(4, 9);
@@ -1197,7 +1156,7 @@ final class PromisesTest {
 
     private void homeOf() {
         title("22 homeOf");
-        DustRobot x = new DustRobot();
+        Robot x = new Robot();
         x.addDrive(1);
         x.addTape(0, 0);
         x.addCleaner(23, 1);
@@ -1215,7 +1174,7 @@ final class PromisesTest {
 
     private void drive() {
         title("23 drive");
-        DustRobot x = dusty(3, 0);
+        Robot x = dusty(3, 0);
         due("drive(-1, 0)", x.drive(-1, 0), UNKNOWN);
         due("drive(1, 6)", x.drive(1, 6), UNKNOWN);
         due("drive(0, -1)", x.drive(0, -1), BAD_VALUE);
@@ -1240,7 +1199,7 @@ final class PromisesTest {
 
     private void dustAndCeiling() {
         title("24 dust, 25 ceiling");
-        DustRobot x = dusty(1, 0);
+        Robot x = dusty(1, 0);
         for (int drive : new int[] {-1, 1, 4, LEAST, MOST}) {
             due("dust(" + drive + ")", x.dust(drive), Float.NaN);
             due("ceiling(" + drive + ")", x.ceiling(drive), Float.NaN);
@@ -1265,7 +1224,7 @@ final class PromisesTest {
 
     private void meter() {
         title("26 meter");
-        DustRobot x = new DustRobot();
+        Robot x = new Robot();
         for (int what : new int[] {-1, 3, LEAST, MOST}) {
             due("meter(" + what + ")", x.meter(what), Float.NaN);
         }
@@ -1301,7 +1260,7 @@ final class PromisesTest {
 
     private void job() {
         title("27 job");
-        DustRobot x = new DustRobot();
+        Robot x = new Robot();
         x.addDrive(0);
         x.addDrive(5);
         x.addTape(1, 0);
@@ -1331,7 +1290,7 @@ final class PromisesTest {
         dueJobs(x, rows);
     }
 
-    private void dueJobs(DustRobot x, int[][] rows) {
+    private void dueJobs(Robot x, int[][] rows) {
         for (int job = 0; job < rows.length; job++) {
             for (int what = 0; what < rows[job].length; what++) {
                 due("job(" + job + ", " + what + ")", x.job(job, what), rows[job][what]);
@@ -1341,7 +1300,7 @@ final class PromisesTest {
 
     private void order() {
         title("28 order");
-        DustRobot x = dusty(3, 0);
+        Robot x = dusty(3, 0);
         x.addDrive(9);
         due("order(-1)", x.order(-1), BAD_VALUE);
         due("order(least)", x.order(LEAST), BAD_VALUE);
@@ -1370,16 +1329,9 @@ final class PromisesTest {
         dueOrder(x, 5, 9, 4, 6, 8);
     }
 
-    private void dueOrder(DustRobot x, int... jobs) {
-        for (int place = 0; place < jobs.length; place++) {
-            due("order(" + place + ")", x.order(place), jobs[place]);
-        }
-        due("order(" + jobs.length + ")", x.order(jobs.length), NONE);
-    }
-
     private void next() {
         title("29 next");
-        DustRobot x = dusty(3, 0);
+        Robot x = dusty(3, 0);
         due("next()", x.next(), NONE);
         x.move(0, 1);
         due("to a home of another item: next()", x.next(), NONE);
@@ -1411,7 +1363,7 @@ final class PromisesTest {
 
     private void mayGo() {
         title("30 mayGo");
-        DustRobot x = new DustRobot();
+        Robot x = new Robot();
         x.addTape(20, 0);
         x.setLimit(bits(10.0f));
         due("mayGo(-1)", x.mayGo(-1), UNKNOWN);
@@ -1438,7 +1390,7 @@ final class PromisesTest {
 
     private void fate() {
         title("31 fate");
-        DustRobot x = dusty(2, 0);
+        Robot x = dusty(2, 0);
         x.move(0, 5);
         x.read(1);
         due("fate(-1, 0)", x.fate(-1, 0), UNKNOWN);
@@ -1482,15 +1434,9 @@ final class PromisesTest {
         due("withdrawn: fate(4, 3)", x.fate(4, 3), BAD_VALUE);
     }
 
-    private void dueFate(DustRobot x, int job, int... told) {
-        for (int what = 0; what < 3; what++) {
-            due("fate(" + job + ", " + what + ")", x.fate(job, what), told[what]);
-        }
-    }
-
     private void takes() {
         title("32 takes");
-        DustRobot x = new DustRobot();
+        Robot x = new Robot();
         x.addTape(3, 0);
         x.addCleaner(4, 1);
         due("takes(0, -1)", x.takes(0, -1), UNKNOWN);
@@ -1505,7 +1451,7 @@ final class PromisesTest {
 
     private void event() {
         title("33 event");
-        DustRobot x = new DustRobot();
+        Robot x = new Robot();
         x.addTape(0, 0);
         for (int job = 0; job < 7; job++) {
             x.move(0, 0);
@@ -1533,7 +1479,7 @@ final class PromisesTest {
 
     private void count() {
         title("34 count");
-        DustRobot x = dusty(3, bits(1.0f));
+        Robot x = dusty(3, bits(1.0f));
         for (int what : new int[] {-1, 20, LEAST, MOST}) {
             due("count(" + what + ")", x.count(what), BAD_VALUE);
         }
@@ -1546,7 +1492,7 @@ final class PromisesTest {
         x.read(0);
         x.move(2, 7);
         x.withdraw(6);
-        typeAll(x, "abc");
+        x.typeAll("abc");
         x.tick(2);
         // A read with the dust 3.0f is not lost; the two behind it are, each three times.
         dueCounts(x, 26, 0, 0, 3, 3, 1, 3, 0, 1, 5, 1, 3, 0, 0, 0, 10, 0, 9, 4, 3);
@@ -1561,55 +1507,9 @@ final class PromisesTest {
         dueCounts(x, 92, 0, NONE, 4, 1, 1, 4, 1, 1, 5, 1, 7, 3, 0, 50, 10, 0, 9, 4, 3);
     }
 
-    private void dueCounts(DustRobot x, int... counts) {
+    private void dueCounts(Robot x, int... counts) {
         for (int what = 0; what < counts.length; what++) {
             due("count(" + what + ")", x.count(what), counts[what]);
         }
-    }
-
-    // ---- the checks
-
-    private interface Call {
-        int answer();
-    }
-
-    /** The call answers an error or NONE, and changes nothing. */
-    private void dueNothing(DustRobot x, String name, int want, Call call) {
-        String before = Told.all(x);
-        due(name, call.answer(), want);
-        checks.due("what is told behind " + name, Told.all(x), before);
-    }
-
-    /** The call is an act: the state before it comes back with undo(), and the call answers the same again. */
-    private void dueAct(DustRobot x, String name, int want, Call call) {
-        String before = Told.state(x);
-        int states = x.count(18);
-        due(name, call.answer(), want);
-        due("states behind " + name, x.count(18), Math.min(states + 1, 4));
-        String after = Told.state(x);
-        x.undo();
-        checks.due("the state behind undo() of " + name, Told.state(x), before);
-        due(name + " again", call.answer(), want);
-        checks.due("the state behind " + name + " again", Told.state(x), after);
-    }
-
-    private void title(String title) {
-        checks.title(title);
-    }
-
-    private void due(String call, long got, long want) {
-        checks.due(call, got, want);
-    }
-
-    private void due(String call, float got, float want) {
-        checks.due(call, got, want);
-    }
-
-    private void due(String call, String got, String want) {
-        checks.due(call, got, want);
-    }
-
-    private static int bits(float value) {
-        return Float.floatToRawIntBits(value);
     }
 }
