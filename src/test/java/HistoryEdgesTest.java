@@ -15,6 +15,7 @@ final class HistoryEdgesTest extends RobotChecks {
         actsThatAnswerZero();
         callsThatAreNoActs();
         undoIsNotRecorded();
+        whatATickChanges();
         errorsAreNotRecorded();
         whatUndoLeavesAlone();
     }
@@ -29,6 +30,8 @@ final class HistoryEdgesTest extends RobotChecks {
         restoreIsAnAct();
         theSnapshotIsNoPartOfAState();
         theSameNumbersAgain();
+        asNew();
+        otherThingsOfTheSameNumbers();
     }
 
     // ---- promise 18
@@ -172,6 +175,28 @@ final class HistoryEdgesTest extends RobotChecks {
         due("count(9)", x.count(9), 0);
         due("undo()", x.undo(), NONE);
         due("count(9)", x.count(9), 0);
+    }
+
+    private void whatATickChanges() {
+        title("18: what happens in a tick is undone: reads, lost reads and the loss of a job");
+        Robot reading = dusty(4, 0);
+        reading.addTape(9, bits(1.0f));
+        reading.read(0);
+        reading.read(4);
+        for (int tick = 0; tick < 17; tick++) {
+            dueAct(reading, tick == 7 ? 1 : 0, x -> x.tick(1));
+        }
+        title("18: cleanings, pleas and moves");
+        Robot moving = dusty(2, 0);
+        moving.addCleaner(6, 2);
+        moving.clean(0);
+        moving.move(2, 3);
+        moving.setLimit(bits(10.0f));
+        for (int tick = 0; tick < 24; tick++) {
+            dueAct(moving, moving.again().fate(2, 1) == 1 || moving.again().fate(3, 1) == 1 ? 1 : 0, x -> x.tick(1));
+        }
+        due("pleas: count(14)", moving.count(14) > 0 ? 1 : 0, 1);
+        due("done: count(6)", moving.count(6), 4);
     }
 
     private void errorsAreNotRecorded() {
@@ -372,7 +397,7 @@ final class HistoryEdgesTest extends RobotChecks {
     }
 
     private void theSameNumbersAgain() {
-        title("18, 20: numbers that were taken back are given again");
+        title("18, 20: numbers that were taken back are given again, with nothing of what was there");
         Robot x = new Robot();
         x.addDrive(0);
         x.addTape(1, 0);
@@ -396,5 +421,69 @@ final class HistoryEdgesTest extends RobotChecks {
             due("job(1, 0)", x.job(1, 0), UNKNOWN);
             due("count(0)", x.count(0), 0);
         }
+    }
+
+    private void asNew() {
+        title("20: a robot whose state is taken back to its beginning is as a new one");
+        Robot x = new Robot();
+        x.keep();
+        x.addDrive(3);
+        x.addDrive(9);
+        x.addTape(0, bits(1.0f));
+        x.addCleaner(1, 3);
+        x.setCeiling(0, bits(2.0f));
+        x.setCeiling(1, bits(499.0f));
+        x.setLimit(bits(12.0f));
+        x.readJobsOf("r0;r0;r0;r0;c1;r0;r0;m0>20");
+        x.putOff(6, 20);
+        x.setOrder(1, 0);
+        x.tick(100);
+        x.tick(100);
+        due("lost reads: count(12)", x.count(12) > 0 ? 1 : 0, 1);
+        due("pleas: count(14)", x.count(14) > 0 ? 1 : 0, 1);
+        due("restore()", x.restore(), 0);
+        Robot fresh = new Robot();
+        due("the state", Told.state(x), Told.state(fresh));
+        for (Robot robot : new Robot[] {x, fresh}) {
+            robot.addCleaner(5, 3);
+            robot.addTape(6, bits(0.5f));
+            robot.addDrive(7);
+            robot.addDrive(8);
+            robot.readJobsOf("m0>4;r1;c0;m1>9;r1;r1;r1");
+        }
+        for (int tick = 0; tick < 60; tick++) {
+            due("the state", Told.state(x), Told.state(fresh));
+            x.tick(1);
+            fresh.tick(1);
+        }
+    }
+
+    private void otherThingsOfTheSameNumbers() {
+        title("18, 20: the same number is a tape in one state and a cleaner in another one, and likewise for jobs");
+        Robot x = new Robot();
+        x.keep();
+        x.addDrive(5);
+        x.addTape(3, bits(0.5f));
+        x.read(0);
+        String tape = Told.state(x);
+        x.restore();
+        x.addCleaner(8, 7);
+        x.addDrive(2);
+        x.move(0, 20);
+        String cleaner = Told.state(x);
+        x.keep();
+        for (int undos = 0; undos < 4; undos++) {
+            x.undo();
+        }
+        due("the state with the tape", Told.state(x), tape);
+        due("restore()", x.restore(), 0);
+        due("the state with the cleaner", Told.state(x), cleaner);
+        due("undo()", x.undo(), 0);
+        due("the state with the tape", Told.state(x), tape);
+        x.keep();
+        x.tick(8);
+        due("it is read: item(0, 4)", x.item(0, 4), 1);
+        due("restore()", x.restore(), 0);
+        due("the state with the tape", Told.state(x), tape);
     }
 }

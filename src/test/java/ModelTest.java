@@ -1,13 +1,19 @@
 import java.util.Random;
 
-/** Long runs of chosen calls, with fixed seeds, on the program and on the model; each answer is compared. */
+/**
+ * Runs of calls by chance, with fixed seeds, on the program and on the model: each answer is compared, and now and then
+ * all that is told, on copies of the robot, as an object is used for at most 512 calls.
+ */
 final class ModelTest {
-    private static final int RUNS = 400;
-    private static final int CALLS = 160;
+    private static final int RUNS = 600;
+    // An act types some seventy characters at most, and what is compared on a copy takes some two hundred calls.
+    private static final int CALLS = 420;
+    private static final int CHANGES = 230;
+    private static final int LONGEST_TEXT = 64;
 
     private final Checks checks = new Checks();
     private final Random random;
-    private final DustRobot x = new DustRobot();
+    private final Robot x = new Robot();
     private final RobotModel m = new RobotModel();
 
     private ModelTest(int seed) {
@@ -30,12 +36,17 @@ final class ModelTest {
         if (manner != 0) {
             furnish();
         }
-        int calls = 0;
-        while (calls < CALLS && checks.wrong() == 0) {
+        int acts = 0;
+        while (x.calls() < CALLS && x.changes() < CHANGES && checks.wrong() == 0) {
             act(manner);
-            compareAll(calls % 8 == 0);
-            calls++;
+            ask();
+            ask();
+            acts++;
+            if (acts % 32 == 0) {
+                compareAll();
+            }
         }
+        compareAll();
     }
 
     private int below(int bound) {
@@ -232,6 +243,7 @@ final class ModelTest {
                 text.setLength(at);
             }
         }
+        text.setLength(Math.min(text.length(), LONGEST_TEXT));
         return text.toString();
     }
 
@@ -245,67 +257,109 @@ final class ModelTest {
 
     // ---- what is told
 
-    private void compareAll(boolean withFates) {
-        compareRow();
-        compareItemsAndDrives();
-        compareJobs(withFates);
+    private void ask() {
+        int item = about(m.count(9));
+        int drive = about(m.count(10));
+        int slot = about(24);
+        int job = about(m.jobs());
+        int what = about(8);
+        switch (below(14)) {
+            case 0: due(x.item(item, what), m.item(item, what)); break;
+            case 1: due(x.homeOf(slot), m.homeOf(slot)); break;
+            case 2: due(x.drive(drive, what), m.drive(drive, what)); break;
+            case 3: due(x.dust(drive), m.dust(drive)); break;
+            case 4: due(x.ceiling(drive), m.ceiling(drive)); break;
+            case 5: due(x.meter(drive), m.meter(drive)); break;
+            case 6: due(x.job(job, what + slot % 5), m.job(job, what + slot % 5)); break;
+            case 7: due(x.order(slot), m.order(slot)); break;
+            case 8: due(x.next(), m.next()); break;
+            case 9: due(x.mayGo(slot), m.mayGo(slot)); break;
+            case 10: due(x.fate(job, drive), m.fate(job, drive)); break;
+            case 11: due(x.takes(drive, item), m.takes(drive, item)); break;
+            case 12: due(x.event(what, drive), m.event(what, drive)); break;
+            default: due(x.count(slot), m.count(slot)); break;
+        }
     }
 
-    private void compareRow() {
+    private void due(int got, int want) {
+        checks.due(x.lastCall(), got, want);
+    }
+
+    private void due(float got, float want) {
+        checks.due(x.lastCall(), got, want);
+    }
+
+    private void compareAll() {
+        compareRow(x.again());
+        compareEvents(x.again());
+        compareItems(x.again());
+        compareDrives(x.again());
+        for (int first = -1; first <= m.jobs(); first += 12) {
+            compareJobs(x.again(), first, Math.min(first + 11, m.jobs()));
+        }
+        compareFates(x.again());
+    }
+
+    private void compareRow(Robot y) {
         for (int what = -1; what < 21; what++) {
-            checks.due("count(" + what + ")", x.count(what), m.count(what));
+            checks.due("count(" + what + ")", y.count(what), m.count(what));
         }
         for (int what = -1; what < 4; what++) {
-            checks.due("meter(" + what + ")", x.meter(what), m.meter(what));
+            checks.due("meter(" + what + ")", y.meter(what), m.meter(what));
         }
         for (int slot = -1; slot < 25; slot++) {
-            checks.due("homeOf(" + slot + ")", x.homeOf(slot), m.homeOf(slot));
-            checks.due("mayGo(" + slot + ")", x.mayGo(slot), m.mayGo(slot));
+            checks.due("homeOf(" + slot + ")", y.homeOf(slot), m.homeOf(slot));
+            checks.due("mayGo(" + slot + ")", y.mayGo(slot), m.mayGo(slot));
+        }
+    }
+
+    private void compareEvents(Robot y) {
+        checks.due("next()", y.next(), m.next());
+        for (int place = -1; place < 32; place++) {
+            checks.due("order(" + place + ")", y.order(place), m.order(place));
         }
         for (int back = -1; back < 11; back++) {
             for (int what = -1; what < 5; what++) {
-                checks.due("event(" + back + ", " + what + ")", x.event(back, what), m.event(back, what));
+                checks.due("event(" + back + ", " + what + ")", y.event(back, what), m.event(back, what));
             }
         }
     }
 
-    private void compareItemsAndDrives() {
-        for (int item = -1; item < m.count(9) + 2; item++) {
-            for (int what = -1; what < 9; what++) {
-                checks.due("item(" + item + ", " + what + ")", x.item(item, what), m.item(item, what));
+    private void compareItems(Robot y) {
+        for (int item = 0; item <= m.count(9); item++) {
+            for (int what = 0; what < 8; what++) {
+                checks.due("item(" + item + ", " + what + ")", y.item(item, what), m.item(item, what));
             }
-            for (int sort = -1; sort < 3; sort++) {
-                checks.due("takes(" + sort + ", " + item + ")", x.takes(sort, item), m.takes(sort, item));
+            for (int sort = 0; sort < 3; sort++) {
+                checks.due("takes(" + sort + ", " + item + ")", y.takes(sort, item), m.takes(sort, item));
             }
         }
+    }
+
+    private void compareDrives(Robot y) {
         for (int drive = -1; drive < 5; drive++) {
-            checks.due("dust(" + drive + ")", x.dust(drive), m.dust(drive));
-            checks.due("ceiling(" + drive + ")", x.ceiling(drive), m.ceiling(drive));
+            checks.due("dust(" + drive + ")", y.dust(drive), m.dust(drive));
+            checks.due("ceiling(" + drive + ")", y.ceiling(drive), m.ceiling(drive));
             for (int what = -1; what < 7; what++) {
-                checks.due("drive(" + drive + ", " + what + ")", x.drive(drive, what), m.drive(drive, what));
+                checks.due("drive(" + drive + ", " + what + ")", y.drive(drive, what), m.drive(drive, what));
             }
         }
     }
 
-    private void compareJobs(boolean withFates) {
-        checks.due("next()", x.next(), m.next());
-        int jobs = 0;
-        while (m.job(jobs, 0) != RobotModel.UNKNOWN) {
-            jobs++;
-        }
-        for (int job = -1; job <= jobs; job++) {
+    private void compareJobs(Robot y, int first, int last) {
+        for (int job = first; job <= last; job++) {
             for (int what = -1; what < 13; what++) {
-                checks.due("job(" + job + ", " + what + ")", x.job(job, what), m.job(job, what));
+                checks.due("job(" + job + ", " + what + ")", y.job(job, what), m.job(job, what));
             }
-            checks.due("order(" + job + ")", x.order(job), m.order(job));
         }
-        if (withFates) {
-            int job = about(jobs);
+    }
+
+    private void compareFates(Robot y) {
+        for (int turn = 0; turn < 3; turn++) {
+            int job = turn == 0 ? m.order(0) : turn == 1 ? m.count(3) : about(m.jobs());
             for (int what = -1; what < 4; what++) {
-                checks.due("fate(" + job + ", " + what + ")", x.fate(job, what), m.fate(job, what));
+                checks.due("fate(" + job + ", " + what + ")", y.fate(job, what), m.fate(job, what));
             }
-            int waiting = m.order(0);
-            checks.due("fate(" + waiting + ", 1)", x.fate(waiting, 1), m.fate(waiting, 1));
         }
     }
 }

@@ -32,6 +32,11 @@ final class Robot {
         return calls;
     }
 
+    /** How many calls were those that may change something. */
+    int changes() {
+        return changes.size();
+    }
+
     /** The latest call, as it is written in Java. */
     String lastCall() {
         StringBuilder written = new StringBuilder(lastName).append('(');

@@ -92,6 +92,10 @@ final class RobotModel {
         return 0 <= job && job < get("jobs");
     }
 
+    int jobs() {
+        return get("jobs");
+    }
+
     private boolean isCleaner(int item) {
         return get("item.cleaner" + item) == 1;
     }

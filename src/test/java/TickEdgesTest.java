@@ -493,6 +493,17 @@ final class TickEdgesTest extends RobotChecks {
             dust = dust + (1.0f + reads * 0.125f);
         }
         due("dust(0)", x.dust(0), dust);
+        title("n * 0.125f, of many reads, on a drive without dust");
+        for (int reads = 20; reads < 24; reads++) {
+            x.read(0);
+            x.tick(8);
+        }
+        for (int drive = 1; drive < 4; drive++) {
+            x.addDrive(drive);
+            x.read(0);
+            x.tick(8);
+            due("dust(" + drive + ")", x.dust(drive), 1.0f + (23 + drive) * 0.125f);
+        }
         title("a lost read is a read, too");
         Robot y = dusty(4, 0);
         y.addTape(20, bits(1.0f));
